@@ -13,6 +13,8 @@ public final class ClaimsTest {
     private static final String LOST_IN_2 = "0010000300w";
     /** A king each, far from each other: nobody is told to win. */
     private static final String DRAWN = "2000000004w";
+    /** White's man becomes a king, black's only move is next to it, and the king captures. */
+    private static final String WON_IN_3 = "0000000103w";
     private static final int WHOLE = 8;
 
     private static final Check CHECK = new Check();
@@ -172,6 +174,13 @@ public final class ClaimsTest {
         CHECK.due("20: more pieces", '?', () -> house.judge(big));
         CHECK.due("20: no pieces", '?', () -> house.judge(none));
         CHECK.due("20: whole, and in a closed game", 'r', () -> house.judge(drawn));
+
+        CheckerLog three = Houses.with(WON_IN_3);
+        three.claim(0);
+        Houses.fillRanks(three, 3);
+        CHECK.due("20: rank 3 is not there", '?', () -> three.judge(0));
+        three.fill();
+        CHECK.due("20: won in 3", 'g', () -> three.judge(0));
 
         CheckerLog moved = Houses.with(WON_IN_1);
         moved.claim(0);

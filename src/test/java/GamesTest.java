@@ -189,6 +189,10 @@ public final class GamesTest {
         CheckerLog most = Houses.with("0103010300w");
         CHECK.due("7: only the most are moves", 1, () -> most.moves(0));
         CHECK.due("7: the most", 2, () -> most.captures(0, 0));
+        CheckerLog later = Houses.with("0003200310w");
+        CHECK.due("7: a better one that begins higher", 1, () -> later.moves(0));
+        CHECK.due("7: its squares", "850", () -> moveOf(later, 0));
+        CHECK.due("7: its pieces", 2, () -> later.captures(0, 0));
         CHECK.due("7: no move", NO_PLACE, () -> start.captures(0, 3));
         CHECK.due("7: move -1", NO_PLACE, () -> start.captures(0, -1));
         CHECK.due("7: no game", NO_PLACE, () -> start.captures(1, 0));
