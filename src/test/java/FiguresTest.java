@@ -12,6 +12,7 @@ public final class FiguresTest {
         promise35KeptShare();
         promise36MeanPieces();
         promise37IsSound();
+        promise37Judgments();
         promise37FindsWhatDiffers();
         CHECK.end("FiguresTest");
     }
@@ -96,6 +97,28 @@ public final class FiguresTest {
         house.spoil(0);
         house.crash(0);
         CHECK.due("37: empty again", true, house::isSound);
+    }
+
+    /** Granted and refused, with even numbers of claims and odd ones, in any order. */
+    private static void promise37Judgments() {
+        CheckerLog house = new CheckerLog();
+        int lost = Houses.setUp(house, "0000000003w");
+        int won = Houses.setUp(house, "0000000003b");
+        house.claim(lost);
+        house.claim(lost);
+        house.claim(won);
+        house.claim(won);
+        Houses.fillRanks(house, 2);
+        for (int claim : new int[] {3, 0, 2, 1}) {
+            int c = claim;
+            CHECK.due("37: judgment of " + c, c < 2 ? 'r' : 'g', () -> house.judge(c));
+            CHECK.due("37: judged " + c, true, house::isSound);
+        }
+        house.crash(240);
+        CHECK.due("37: after a crash that cuts none", true, house::isSound);
+        house.close(lost);
+        house.compact();
+        CHECK.due("37: the refused ones are dropped", true, house::isSound);
     }
 
     /** No call makes a house unsound: so the state inside is changed to see that the check finds it. */

@@ -20,6 +20,7 @@ public final class GamesTest {
         promise9Close();
         promise10At();
         promise11AtAnew();
+        promise11AllSquares();
         promise12IsBlack();
         promise13IsClosed();
         promise14Games();
@@ -145,21 +146,11 @@ public final class GamesTest {
         CHECK.due("5: game -1", NO_PLACE, () -> house.moves(-1));
     }
 
-    private static String moveOf(CheckerLog house, int move) {
-        StringBuilder squares = new StringBuilder();
-        for (int index = 0; index < 10; index++) {
-            int at = index;
-            String square = Check.answerOf(() -> house.step(0, move, at));
-            squares.append(square.length() == 1 ? square : "");
-        }
-        return squares.toString();
-    }
-
     private static void promise6Step() {
         CheckerLog start = Houses.with("1111003333w");
-        CHECK.due("6: first", "24", () -> moveOf(start, 0));
-        CHECK.due("6: second", "34", () -> moveOf(start, 1));
-        CHECK.due("6: third", "35", () -> moveOf(start, 2));
+        CHECK.due("6: first", "24", () -> Houses.moveOf(start, 0, 0));
+        CHECK.due("6: second", "34", () -> Houses.moveOf(start, 0, 1));
+        CHECK.due("6: third", "35", () -> Houses.moveOf(start, 0, 2));
         CHECK.due("6: no move", NO_PLACE, () -> start.step(0, 3, 0));
         CHECK.due("6: move -1", NO_PLACE, () -> start.step(0, -1, 0));
         CHECK.due("6: no square", NO_PLACE, () -> start.step(0, 0, 2));
@@ -167,14 +158,14 @@ public final class GamesTest {
         CHECK.due("6: no game", NO_PLACE, () -> start.step(1, 0, 0));
         CHECK.due("6: far off", NO_PLACE, () -> start.step(0, Integer.MAX_VALUE, Integer.MIN_VALUE));
         CheckerLog king = Houses.with("0000200000w");
-        CHECK.due("6: king's first", "42", () -> moveOf(king, 0));
-        CHECK.due("6: king's last", "47", () -> moveOf(king, 3));
+        CHECK.due("6: king's first", "42", () -> Houses.moveOf(king, 0, 0));
+        CHECK.due("6: king's last", "47", () -> Houses.moveOf(king, 0, 3));
         CheckerLog two = Houses.with("1001000400b");
         CHECK.due("6: a capture goes to the square behind", "36", () ->
-                moveOf(Houses.with("0003100000b"), 0));
-        CHECK.due("6: a capture of two", "149", () -> moveOf(Houses.with("0103000300w"), 0));
+                Houses.moveOf(Houses.with("0003100000b"), 0, 0));
+        CHECK.due("6: a capture of two", "149", () -> Houses.moveOf(Houses.with("0103000300w"), 0, 0));
         CHECK.due("6: a move has no more squares", NO_PLACE, () -> Houses.with("0103000300w").step(0, 0, 3));
-        CHECK.due("6: no capture over a square that is taken behind", "74", () -> moveOf(two, 0));
+        CHECK.due("6: no capture over a square that is taken behind", "74", () -> Houses.moveOf(two, 0, 0));
         CheckerLog closed = Houses.with("1111003333w");
         closed.close(0);
         CHECK.due("6: closed", NO_PLACE, () -> closed.step(0, 0, 0));
@@ -191,7 +182,7 @@ public final class GamesTest {
         CHECK.due("7: the most", 2, () -> most.captures(0, 0));
         CheckerLog later = Houses.with("0003200310w");
         CHECK.due("7: a better one that begins higher", 1, () -> later.moves(0));
-        CHECK.due("7: its squares", "850", () -> moveOf(later, 0));
+        CHECK.due("7: its squares", "850", () -> Houses.moveOf(later, 0, 0));
         CHECK.due("7: its pieces", 2, () -> later.captures(0, 0));
         CHECK.due("7: no move", NO_PLACE, () -> start.captures(0, 3));
         CHECK.due("7: move -1", NO_PLACE, () -> start.captures(0, -1));
@@ -210,7 +201,7 @@ public final class GamesTest {
         CHECK.due("8: move -1", NO_PLACE, () -> house.move(0, -1));
         CHECK.due("8: no game", NO_PLACE, () -> house.move(1, 0));
         CheckerLog two = Houses.with("0103000303w");
-        CHECK.due("8: a capture to a square that is taken", "14", () -> moveOf(two, 0));
+        CHECK.due("8: a capture to a square that is taken", "14", () -> Houses.moveOf(two, 0, 0));
         CheckerLog three = Houses.with("0103000300w");
         CHECK.due("8: no move is left", 0, () -> three.move(0, 0));
         CHECK.due("8: both are gone", "0000000002b", () -> Houses.boardOf(three, 0));
@@ -257,6 +248,9 @@ public final class GamesTest {
         Houses.fillLog(house);
         CHECK.due("9: full", FULL, () -> house.close(2));
         CHECK.due("9: full and closed", NOT_NOW, () -> house.close(0));
+        CheckerLog single = new CheckerLog();
+        single.open();
+        CHECK.due("9: the last open one", 0, () -> single.close(0));
     }
 
     private static void promise10At() {
@@ -301,6 +295,39 @@ public final class GamesTest {
         CHECK.due("11: moves are made anew", 0, () -> moved.atAnew(0, 7));
         CHECK.due("11: captures too", 0, () -> moved.atAnew(0, 4));
         CHECK.due("11: to where", 3, () -> moved.atAnew(0, 2));
+    }
+
+    /** Nothing is spoilt: so the log alone tells what is there, after all that is done with it. */
+    private static void promise11AllSquares() {
+        CheckerLog house = Houses.with("0103000300w");
+        house.move(0, 0);
+        house.open();
+        house.open();
+        house.move(1, 2);
+        house.close(2);
+        sameAnew("11: written", house, 0, 2);
+        house.compact();
+        house.move(1, 0);
+        sameAnew("11: compacted", house, 0, 1);
+        house.crash(3);
+        sameAnew("11: crashed", house, 0, 1);
+        CHECK.due("11: a dropped game", NO_PLACE, () -> house.atAnew(2, 0));
+        house.spoil(0);
+        CHECK.due("11: the first record is spoilt", 0, () -> house.atAnew(1, 0));
+        house.crash(240);
+        CHECK.due("11: all is cut", NO_PLACE, () -> house.atAnew(1, 0));
+        house.open();
+        CHECK.due("11: opened again", 1, () -> house.atAnew(0, 0));
+    }
+
+    private static void sameAnew(String label, CheckerLog house, int first, int last) {
+        for (int game = first; game <= last; game++) {
+            for (int square = 0; square < 10; square++) {
+                int g = game;
+                int s = square;
+                CHECK.due(label + ", " + g + " on " + s, house.at(g, s), () -> house.atAnew(g, s));
+            }
+        }
     }
 
     private static void promise12IsBlack() {
